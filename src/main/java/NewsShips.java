@@ -14,7 +14,8 @@ public final class NewsShips {
 
     private static final int MOST_BYTES = 120, MOST_FIGURES = 2;
     private static final int MISPLACED = 1, WRONG_NUMBER = 2, NO_ROOM = 3;
-    // Letters and signs are told by their bytes, so other tokens have numbers above these.
+    // Every byte but a figure tells itself (one that is no token can stand nowhere), so the
+    // others have numbers above all bytes.
     private static final int NUMBER = 256, END = 257, NO_TOKEN = 258;
 
     private static final int LEAST_PORTS = 2, MOST_PORTS = 6, MOST_WAYS = 8, MOST_DAYS_OF_WAY = 9;
@@ -547,29 +548,19 @@ public final class NewsShips {
         /** Brings the next TOKEN in view; at the end, the end stays. */
         void step() {
             start = behind;
-            if (start >= size) {
-                token = END;
-                return;
-            }
-            token = bytes[start];
-            behind = start + 1;
+            token = start < size ? bytes[start] : END;
+            behind = Math.min(start + 1, size);
             if (isFigure(token)) {
                 value = 0;
                 for (behind = start; behind < size && isFigure(bytes[behind]); behind++) {
                     value = value * 10 + bytes[behind] - '0';
                 }
                 token = behind - start <= MOST_FIGURES ? NUMBER : NO_TOKEN;
-            } else if (!isLetter(token) && token != ',' && token != ';') {
-                token = NO_TOKEN;
             }
         }
 
         private static boolean isFigure(int b) {
             return b >= '0' && b <= '9';
-        }
-
-        private static boolean isLetter(int b) {
-            return b >= 'a' && b <= 'z';
         }
     }
 

@@ -190,6 +190,8 @@ public final class PromisesTest {
         x.days(3);
         x.ask(0, 0);
         due("7: a league in place of one", Check.read(x, LINE + "t1;"), 4);
+        due("7: its ways", x.count(2), 3);
+        due("7: its ships", x.count(3), 1);
         due("7: day 0", x.count(4), 0);
         due("7: no news", x.count(5), 0);
         due("7: none at sea", x.count(6), 0);
@@ -236,6 +238,10 @@ public final class PromisesTest {
         faulty("p2;" + "w0,1,1;".repeat(8) + "t0;w0,1,1;", 62, 1);
         faulty("p2;" + (char) 0, 3, 1);
         faulty("p2;" + (char) 228, 3, 1);
+        NewsShips again = new NewsShips();
+        Check.read(again, "p22;");
+        due("7: bytes of the text before are gone", Check.read(again, "p2"), -1000102);
+        due("8: so it ends too early", again.fault(), 1);
     }
 
     private static void promise8() {
@@ -338,6 +344,18 @@ public final class PromisesTest {
         due("11: by a signal on day 4", y.days(2), 1);
         due("11: of news 0 to port 2", y.knows(2, 0), 4);
 
+        NewsShips first = Check.with("p6;w4,5,1;w0,1,1;m4;m4;m4;m4;");
+        for (int i = 0; i < 4; i++) {
+            first.happen(4);
+        }
+        first.sail(3, 0);
+        due("11: four news to port 5", first.days(1), 4);
+        due("11: four pence", first.ship(3, 2), 36);
+        due("11: nobody else", first.port(5, 0) * 100 + first.port(0, 0), 1500);
+        first.undo();
+        first.undo();
+        due("11: by signals of way 0", first.days(2), 0);
+        due("11: by signals of way 0", first.days(1), 4);
         NewsShips z = Check.with("p2;w0,1,9;w0,1,4;b0;t0;");
         z.happen(0);
         z.sail(0, 0);
@@ -494,6 +512,13 @@ public final class PromisesTest {
         due("18: till day 150, not behind", far.ahead(5, 0), NONE);
         due("22: so some never", far.sure(0, 0), NONE);
         due("22: so some never", far.sure(0, 1), NONE);
+        far.happen(5);
+        due("18: 96 and 27 and 24", far.ahead(1, 1), 147);
+        due("18: 96 and 57", far.ahead(0, 1), NONE);
+        NewsShips back = Check.with("p6;w4,5,1;w3,4,1;w2,3,1;w1,2,1;w0,1,1;t0;");
+        back.happen(0);
+        due("18: ways told from the end", back.ahead(5, 0), 15);
+        due("21: ways told from the end", back.overtaken(0, 5, 0), 10);
         NewsShips apart = Check.with("p3;w0,1,2;t2;");
         apart.happen(2);
         due("18: never", apart.ahead(0, 0), NONE);
@@ -543,6 +568,7 @@ public final class PromisesTest {
     }
 
     private static void promise20() {
+        fameAmongThoseWhoKnow();
         NewsShips x = Check.with(LINE + "c0;g0;t3;");
         x.happen(0);
         due("20: all but its own", x.fame(0, 0, 30, 0), 3);
@@ -591,7 +617,29 @@ public final class PromisesTest {
             never.days(20);
         }
         never.happen(0);
+        due("19: fetched, where there are six ports", fetchedIn6(), 4);
         due("20: ahead of what never comes", never.ahead(3, 0) == NONE ? never.fame(0, 0, 30, 0) : BAD, 5);
+    }
+
+    private static int fetchedIn6() {
+        NewsShips x = Check.with("p6;w4,5,1;w3,4,1;w2,3,1;w1,2,1;w0,1,1;w0,5,9;w0,2,9;w0,3,9;t3;");
+        x.happen(5);
+        return x.carried(0, 3, 0);
+    }
+
+    private static void fameAmongThoseWhoKnow() {
+        NewsShips x = Check.with("p6;w4,5,9;w3,4,1;w2,3,1;w1,2,1;w0,1,1;t0;");
+        x.happen(0);
+        x.days(12);
+        due("20: by four that know it, then 9 days", x.fame(0, 0, 13, 0), 1);
+        due("20: by four that know it, then 9 days", x.fame(0, 0, 30, 1), 13);
+        NewsShips y = Check.with("p3;w0,1,2;w1,2,3;w0,2,9;t1;");
+        y.happen(1);
+        due("20: 0 on day 2; 2 on 3 and 0 on 8 is too late", y.fame(0, 0, 30, 0), 2);
+        due("20: 0 on day 2, 2 on day 7", y.fame(0, 0, 30, 1), 7);
+        NewsShips z = Check.with("p3;w1,0,4;w1,2,2;t1;");
+        z.happen(1);
+        due("20: 2 on day 2, 0 on day 8", z.fame(0, 0, 30, 1), 8);
     }
 
     private static void promise21() {
@@ -615,6 +663,9 @@ public final class PromisesTest {
         NewsShips apart = Check.with("p4;w0,1,2;w2,3,1;t2;t0;");
         apart.happen(0);
         due("21: that never comes", apart.overtaken(0, 3, 0), NONE);
+        NewsShips even = Check.with("p3;w0,1,1;w2,1,3;t2;");
+        even.happen(0);
+        due("21: on the same day", even.overtaken(0, 1, 0), NONE);
         due("21: it never comes there", apart.overtaken(0, 1, 0), NONE);
         due("21: ahead", apart.overtaken(1, 1, 0), 4);
     }
@@ -768,6 +819,12 @@ public final class PromisesTest {
             due("25: no order, though never come to: " + item, x.followed(0, 1, 0, 3, 0), BAD);
             due("25: not among them: " + item, x.followed(0, 1, 0, 1, 0), 3);
         }
+        Check.fill(x, 1, 20, 7, 20);
+        due("25: there is no way 7, so all ends", x.followed(0, 1, 0, 3, 0), 3);
+        Check.fill(x, 1, 20, 2, 20);
+        due("25: way 2 has no end there, so all ends", x.followed(0, 1, 0, 3, 0), 3);
+        Check.fill(x, 1, 20, 9);
+        due("25: behind the last one", x.followed(0, 1, 0, 1, 0), 3);
         Check.fill(x, 1, 10, 11, 20, 12, 20, 13, 20);
         due("25: an if left out, and three days", x.followed(0, 1, 0, 7, 0), 5);
         lateOrders();
