@@ -171,6 +171,15 @@ final class EdgesOfTexts {
         faulty("p2;t001;", 4, 1);
         faulty("p2;t99999999999;", 4, 1);
         faulty("p4294967298;", 1, 1);
+        // Three figures are no token wherever they stand, where a text may end, too.
+        faulty("123", 0, 1);
+        faulty("p2123", 1, 1);
+        faulty("p2;123", 3, 1);
+        faulty("p2;000", 3, 1);
+        faulty("p2;w0,1,1;123", 10, 1);
+        faulty("p2;t0;123", 6, 1);
+        faulty("p2;t0;123;", 6, 1);
+        faulty("p2;t0;t0;t0;t0;123", 15, 1);
         faulty(" p2;", 0, 1);
         faulty("p 2;", 1, 1);
         faulty("p2 ;", 2, 1);
