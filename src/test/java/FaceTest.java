@@ -27,6 +27,7 @@ public final class FaceTest {
         constructors();
         classesInside();
         source();
+        document();
         room();
         Check.end("FaceTest");
     }
@@ -123,6 +124,27 @@ public final class FaceTest {
         while (imports.find()) {
             Check.holds("an import that may be: " + imports.group(1), imports.group(1).equals("java.util.Arrays"));
         }
+    }
+
+    /** Each line of the document's face stands in the source, word for word. */
+    private static void document() throws IOException {
+        Path doc = Path.of("../shared/DOC.md");
+        if (!Files.exists(doc)) {
+            System.out.println(doc + " is not here, so the face is not compared with it");
+            return;
+        }
+        String code = Files.readString(Path.of("src/main/java/NewsShips.java"));
+        Matcher face = Pattern.compile("(?s)```java\n(.*?)```").matcher(Files.readString(doc));
+        int lines = 0;
+        for (String line : face.find() ? face.group(1).split("\n") : new String[0]) {
+            if (line.contains("public ")) {
+                lines++;
+                String stands = line.endsWith(");") ? line.substring(0, line.length() - 1) + " {" : line;
+                Check.holds("it stands in the class: " + line, code.contains("\n" + stands + "\n"));
+            }
+        }
+        // The class, its constants, its constructor and its methods.
+        Check.due("lines of the face", lines, 3 + FACE.length);
     }
 
     /** No call makes an object, so a run's room is what its constructors make. */
